@@ -35,8 +35,8 @@ public final class FontShelf {
     private static final int FONTS_AT_HAND = 2;
 
     // No attribute ever has one of these two values, so they can say that there was none.
-    private static final int ABOVE_ALL = Integer.MAX_VALUE;
-    private static final int BELOW_ALL = Integer.MIN_VALUE;
+    private static final int ABOVE_ALL = 1000000;
+    private static final int BELOW_ALL = -1000000;
 
     private final ArrayList<Font> shelf = new ArrayList<>();
     private final int[] draft = FIRST_DRAFT.clone();
@@ -339,14 +339,16 @@ public final class FontShelf {
     // The fonts that are still left are the bits of an int, bit i for font i: 32 are just enough.
     private Font bestFor(int[] wish) {
         int left = allFonts();
-        left = narrowBySet(left, wish[SET]);
+        left = preferring(left, SET, having(left, SET, wish[SET]) == 0 ? COMMON_SET : wish[SET]);
         left = preferring(left, SPACING, wish[SPACING]);
         if (wish[SPACING] == EVEN && having(left, SPACING, EVEN) == left) {
             left = having(left, PITCH, nextUp(left, PITCH, wish[PITCH]));
         }
         left = having(left, HEIGHT, nearestHeight(left, wish[HEIGHT]));
         left = preferring(left, STYLE, wish[STYLE]);
-        left = having(left, WEIGHT, fittingWeight(left, wish[WEIGHT]));
+        // The weight wished for is itself the next one up or down, where a font has it.
+        left = having(left, WEIGHT, wish[WEIGHT] >= 0
+                ? nextUp(left, WEIGHT, wish[WEIGHT]) : nextDown(left, WEIGHT, wish[WEIGHT]));
         left = preferring(left, FACE, wish[FACE]);
         left = preferringPassing(left);
         int last = 31 - Integer.numberOfLeadingZeros(left);
@@ -385,11 +387,6 @@ public final class FontShelf {
             }
         }
         return found == 0 ? among : found;
-    }
-
-    private int narrowBySet(int among, int wished) {
-        int found = having(among, SET, wished);
-        return found == 0 ? preferring(among, SET, COMMON_SET) : found;
     }
 
     private int leastFrom(int among, int w, int floor) {
@@ -434,11 +431,6 @@ public final class FontShelf {
             return above;
         }
         return above - wished <= wished - below ? above : below;
-    }
-
-    // The weight wished for is itself the next one up or down, where a font has it.
-    private int fittingWeight(int among, int wished) {
-        return wished >= 0 ? nextUp(among, WEIGHT, wished) : nextDown(among, WEIGHT, wished);
     }
 
     /** One of the two fonts at hand: what it should be like. */

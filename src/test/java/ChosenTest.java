@@ -107,6 +107,10 @@ public final class ChosenTest {
         for (int weight = -7; weight <= 7; weight++) {
             wished(x, 5, weight, want[weight + 7]);
         }
+        FontShelf both = differingIn(5, 1, -1);
+        wished(both, 5, 0, 0);
+        wished(both, 5, -1, 1);
+        wished(both, 5, -2, 1);
         FontShelf light = differingIn(5, -4, -2);
         wished(light, 5, 0, 1);
         wished(light, 5, 7, 1);

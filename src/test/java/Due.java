@@ -28,15 +28,20 @@ final class Due {
         is(what, got ? 1 : 0, 0);
     }
 
-    /** The very class is asked for: an ArrayIndexOutOfBoundsException would be the machine's own. */
+    /** The very class is asked for, and that FontShelf threw it: the machine and the library throw too. */
     static void throwing(String what, Class<? extends RuntimeException> want, Call call) {
         try {
             tell(what + " answered " + call.answer() + ", due is " + want.getSimpleName());
         } catch (RuntimeException e) {
-            if (e.getClass() != want) {
+            if (e.getClass() != want || !thrownByShelf(e)) {
                 tell(what + " threw " + e + ", due is " + want.getSimpleName());
             }
         }
+    }
+
+    static boolean thrownByShelf(RuntimeException e) {
+        StackTraceElement[] trace = e.getStackTrace();
+        return trace.length > 0 && trace[0].getClassName().startsWith("FontShelf");
     }
 
     static void tell(String text) {

@@ -44,6 +44,7 @@ public final class LoadTest {
         Due.is("glyphs", x.look(1), 1);
     }
 
+    // It takes three calls a glyph, so more than the 512 that are promised: the limit is told all the same.
     private static void tooManyGlyphs() {
         FontShelf x = Make.withFonts(1, 0);
         for (int code = 0; code < 256; code++) {
