@@ -70,18 +70,17 @@ public final class ModelTest {
 
     private boolean same(String name, Due.Call ofReal, Due.Call ofModel) {
         calls++;
-        String got = outcome(ofReal, true);
-        String want = outcome(ofModel, false);
+        String got = Due.outcome(ofReal);
+        String want = outcomeOf(ofModel);
         call = name + " answered " + got + ", due is " + want;
         return got.equals(want);
     }
 
-    private static String outcome(Due.Call answer, boolean isReal) {
+    private static String outcomeOf(Due.Call answer) {
         try {
             return Long.toString(answer.answer());
         } catch (RuntimeException e) {
-            boolean byMachine = isReal && !Due.thrownByShelf(e);
-            return e.getClass().getName() + (byMachine ? " not by a throw of its own" : "");
+            return e.getClass().getName();
         }
     }
 

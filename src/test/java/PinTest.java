@@ -1,69 +1,82 @@
+import java.util.List;
+
 /** Promise 10: pin. */
 public final class PinTest {
     private static final int[] MIDDLE = {10, 1, 20, 30, 40, -5, 60};
 
     public static void main(String[] args) {
-        takesAttributes();
-        staysByNumber();
-        refused();
+        Due.sentence("Font which at hand is PINNED to an ID", PinTest::pinned);
+        Due.sentence("and its WISH becomes that font's attributes", PinTest::wishBecomes);
+        Due.sentence("false if there is no such font", PinTest::noFont);
+        Due.sentence("false if which is neither 0 nor 1", PinTest::noWhich);
         Due.end();
     }
 
-    private static FontShelf three() {
-        FontShelf x = new FontShelf();
-        Make.font(x, 1);
-        Make.font(x, 2, MIDDLE);
-        Make.font(x, 0, 277, 0, 1000, 1200, 0, 0, 3);
+    private static void pinned() {
+        FontShelf x = Make.withFonts(0, 32767, 5);
+        x.glyph(0, 0, 8, 8, 0);
+        for (int which = 0; which < 2; which++) {
+            for (int id : new int[] {0, 32767, 5, 0}) {
+                Due.yes("pin(" + which + ", " + id + ")", x.pin(which, id));
+                Due.is("PIN", x.wish(which, 7), id);
+                Due.is("chosen", x.chosen(which), id);
+            }
+            Due.yes("to what it is already", x.pin(which, 0));
+            Due.is("the other's PIN", x.wish(1 - which, 7), which == 0 ? -1 : 0);
+        }
+        Due.is("ID at hand", x.look(3), 5);
+        Due.is("what is being loaded stays", x.look(5), 8);
+        Make.idsAre("the shelf stays", x, 0, 32767, 5);
+    }
+
+    private static void wishBecomes() {
+        for (int which = 0; which < 2; which++) {
+            FontShelf x = new FontShelf();
+            Make.font(x, 1, Make.LEAST_VALUE);
+            Make.font(x, 2, MIDDLE);
+            Make.font(x, 3, Make.GREATEST_VALUE);
+            int[][] wants = {Make.LEAST_VALUE, MIDDLE, Make.GREATEST_VALUE};
+            for (int id = 1; id <= 3; id++) {
+                Due.yes("pin", x.pin(which, id));
+                for (int w = 0; w < 7; w++) {
+                    Due.is("wish(" + which + ", " + w + ")", x.wish(which, w), wants[id - 1][w]);
+                    Due.is("the other's " + w, x.wish(1 - which, w), Make.FIRST_DRAFT[w]);
+                    Due.is("the draft's " + w, x.wish(2, w), Make.GREATEST_VALUE[w]);
+                }
+            }
+            x.attribute(true, which, 0, 277);
+            Due.is("the font keeps its own", x.font(2, 0), 2047);
+            x.hand(false, 3);
+            x.drop(2);
+            Due.is("the wish stays without it", x.wish(which, 3), 99999);
+        }
+    }
+
+    private static void noFont() {
+        for (int which = 0; which < 2; which++) {
+            int of = which;
+            for (int id : new int[] {-1, 33, 32766, 32768, Integer.MIN_VALUE, Integer.MAX_VALUE}) {
+                Refused.isFalse("pin(" + of + ", " + id + ")", Scene.ALL, x -> x.pin(of, id));
+            }
+            for (int id : new int[] {0, 1, 32767}) {
+                Refused.isFalse("empty: pin(" + of + ", " + id + ")", List.of(Scene.EMPTY), x -> x.pin(of, id));
+            }
+            Refused.isFalse("it went: pin(" + of + ", 5)", List.of(PinTest::fiveGone), x -> x.pin(of, 5));
+        }
+    }
+
+    private static FontShelf fiveGone() {
+        FontShelf x = Scene.IDLE.get();
+        x.pin(0, 5);
+        x.drop(2);
         return x;
     }
 
-    private static void takesAttributes() {
-        FontShelf x = three();
-        x.glyph(0, 0, 8, 8, 0);
-        Due.yes("pin(1, 2)", x.pin(1, 2));
-        for (int w = 0; w < MIDDLE.length; w++) {
-            Due.is("wish(1, " + w + ")", x.wish(1, w), MIDDLE[w]);
+    private static void noWhich() {
+        for (int which : Make.NO_WHICH) {
+            for (int id : new int[] {0, 1, 5, 33}) {
+                Refused.isFalse("pin(" + which + ", " + id + ")", Scene.ALL, x -> x.pin(which, id));
+            }
         }
-        Due.is("its pin", x.wish(1, 7), 2);
-        Due.is("pin of the other", x.wish(0, 7), -1);
-        Due.is("wish of the other", x.wish(0, 0), 277);
-        Due.is("chosen(1)", x.chosen(1), 2);
-        Due.is("chosen(0)", x.chosen(0), 0);
-        Due.yes("pin(0, 0)", x.pin(0, 0));
-        Due.is("its pin", x.wish(0, 7), 0);
-        Due.is("what is loaded stays", x.look(5), 8);
-        x.attribute(true, 1, 0, 277);
-        Due.is("the font keeps its own", x.font(1, 0), 10);
-    }
-
-    private static void staysByNumber() {
-        FontShelf x = three();
-        x.pin(0, 2);
-        x.hand(false, 2);
-        x.drop(2);
-        Due.is("pin without its font", x.wish(0, 7), 2);
-        Due.is("chosen without it", x.chosen(0), 0);
-        x.header();
-        Due.is("wish stays", x.wish(0, 0), 10);
-        Due.is("chosen when it came again", x.chosen(0), 2);
-        x.permanent(true);
-        Due.is("a permanent one too", x.chosen(0), 2);
-    }
-
-    private static void refused() {
-        FontShelf x = three();
-        x.pin(0, 2);
-        for (int id : new int[] {-1, 3, 32767, 32768, Integer.MIN_VALUE, Integer.MAX_VALUE}) {
-            Due.no("pin(0, " + id + ")", x.pin(0, id));
-        }
-        for (int which : new int[] {-1, 2, Integer.MIN_VALUE, Integer.MAX_VALUE}) {
-            Due.no("pin(" + which + ", 1)", x.pin(which, 1));
-        }
-        Due.is("pin", x.wish(0, 7), 2);
-        Due.is("wish", x.wish(0, 0), 10);
-        Due.is("draft", x.wish(2, 0), 277);
-        x.drop(0);
-        Due.no("no font any more", x.pin(0, 2));
-        Due.is("pin", x.wish(0, 7), 2);
     }
 }
