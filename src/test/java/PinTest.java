@@ -1,12 +1,21 @@
 import java.util.List;
+import java.util.function.Consumer;
 
 /** Promise 10: pin. */
 public final class PinTest {
     private static final int[] MIDDLE = {10, 1, 20, 30, 40, -5, 60};
+    private static final int[] FIVE = {277, 0, 1200, 1400, 1, 3, 7};
+    /** All that can be done to a shelf, but for a wish and another PIN. */
+    private static final List<Consumer<FontShelf>> NO_WISH = List.of(
+        x -> x.hand(false, 0), x -> x.hand(true, 0), x -> x.attribute(false, 0, 0, 1), x -> x.attribute(false, 1, 6, 1),
+        x -> x.header(), x -> x.glyph(0, 0, 1, 1, 1), x -> x.bytes(-1, 8), x -> x.load(), x -> x.permanent(true),
+        x -> x.drop(0), x -> x.drop(1), x -> x.drop(2), x -> x.drop(3), x -> x.chosen(0), x -> x.chosen(1),
+        x -> x.font(2, 7), x -> x.of(0, 255, 0), x -> x.row(1, 255, 0, 0), x -> x.wish(0, 7), x -> x.look(0));
 
     public static void main(String[] args) {
         Due.sentence("Font which at hand is PINNED to an ID", PinTest::pinned);
         Due.sentence("and its WISH becomes that font's attributes", PinTest::wishBecomes);
+        Due.sentence("its PIN going (with a wish, and with nothing else)", PinTest::goesWithWishAlone);
         Due.sentence("false if there is no such font", PinTest::noFont);
         Due.sentence("false if which is neither 0 nor 1", PinTest::noWhich);
         Due.end();
@@ -49,6 +58,25 @@ public final class PinTest {
             x.hand(false, 3);
             x.drop(2);
             Due.is("the wish stays without it", x.wish(which, 3), 99999);
+        }
+    }
+
+    private static void goesWithWishAlone() {
+        for (int i = 0; i < NO_WISH.size(); i++) {
+            FontShelf x = Scene.BUSY.get();
+            x.pin(0, 5);
+            x.pin(1, 5);
+            NO_WISH.get(i).accept(x);
+            for (int which = 0; which < 2; which++) {
+                Due.is("PIN after call " + i, x.wish(which, 7), 5);
+                for (int w = 0; w < 7; w++) {
+                    Due.is("wish(" + which + ", " + w + ") after call " + i, x.wish(which, w), FIVE[w]);
+                }
+            }
+            Make.font(x, 5, MIDDLE);
+            Make.font(x, 6, FIVE);
+            Due.is("chosen(0) when its font came again after call " + i, x.chosen(0), 5);
+            Due.is("chosen(1) when its font came again after call " + i, x.chosen(1), 5);
         }
     }
 
