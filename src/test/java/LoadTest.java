@@ -98,7 +98,8 @@ public final class LoadTest {
         return x;
     }
 
-    // It takes three calls a glyph, so more than the 512 that are promised: the limit is told all the same.
+    // Three calls a glyph go past the 512 that are promised, behind which answers are free: within them this limit
+    // can't be reached, so it is tested here or nowhere.
     private static void tooManyGlyphs() {
         FontShelf x = Make.withFonts(1, 0);
         for (int code = 0; code < 255; code++) {
